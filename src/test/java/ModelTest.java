@@ -26,11 +26,20 @@ public final class ModelTest {
     private void go(int run, int calls) {
         int before = Checks.wrongSoFar();
         settle();
+        if (run % 40 == 3) {
+            goToLastDays();
+        }
         for (int k = 0; k < calls && Checks.wrongSoFar() == before; k++) {
             call();
         }
         if (Checks.wrongSoFar() != before) {
             System.out.println("run " + run + ":\n" + told);
+        }
+    }
+
+    private void goToLastDays() {
+        for (int k = 0; k < 166; k++) {
+            same("days(60)", town.days(60), model.days(60));
         }
     }
 

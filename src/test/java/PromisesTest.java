@@ -524,6 +524,19 @@ public final class PromisesTest {
         // Who can do nothing is not away. c idle: 5 units by 1, without a 8 by 11; c as ever: 0, without a 2 by 11.
         Checks.law(x, "m1+10*a(1=1)");
         due("18: not away", x.spoilt(0, 2, 1), 61);
+        nobodySpoilsItself();
+    }
+
+    private static void nobodySpoilsItself() {
+        MissedTown x = new MissedTown();
+        x.person(0, 3);
+        x.person(1, 0);
+        x.chore(0, 4);
+        Checks.doers(x, "0:a");
+        Checks.leaves(x, "a0-0");
+        Checks.law(x, "m5(u=1)");
+        due("18: missed by less than nothing", x.missed(0, 1), -5);
+        due("18: nobody but the one itself", x.spoilt(0, 10, 1), -2);
     }
 
     private static MissedTown bySeason(String leaves) {
@@ -619,7 +632,24 @@ public final class PromisesTest {
             due("22: holds(" + w[0] + ", " + w[1] + ", " + w[2] + ")", x.holds(w[0], w[1], w[2]), -1);
         }
         due("22: nobody told", new MissedTown().holds(1, 1, 0), -2);
+        MissedTown ten = ten("m1(a=10)");
+        due("22: all ten", ten.holds(1, 1, 0), 10);
+        due("22: who", ten.holds(1, 1, 1), 1023);
+        Checks.law(ten, "m1(a=9)");
+        due("22: but not by all", ten.holds(1, 1, 1), 511);
         due("22: leaves are as they were", x.count(9), 3);
+    }
+
+    /** Ten people who can do nothing, with a leave each on the first day, and a chore of one unit. */
+    private static MissedTown ten(String law) {
+        MissedTown x = new MissedTown();
+        for (int p = 0; p < 10; p++) {
+            x.person(p, 0);
+        }
+        x.chore(0, 1);
+        Checks.law(x, law);
+        Checks.leaves(x, "a0-0,b0-0,c0-0,d0-0,e0-0,f0-0,g0-0,h0-0,i0-0,j0-0");
+        return x;
     }
 
     private static void mayor() {
@@ -720,6 +750,11 @@ public final class PromisesTest {
         x.chore(3, 1);
         due("26: even if all stay", x.mustStay(1, 0), -2);
         due("26: even if all stay", x.mustStay(1, 1), -2);
+        MissedTown ten = ten("n1(a>0);n0(1=1)");
+        due("26: all ten", ten.mustStay(1, 0), 10);
+        due("26: who", ten.mustStay(1, 1), 1023);
+        Checks.law(ten, "n0(a=3)");
+        due("26: though not if all stay", ten.mustStay(1, 1), 127);
         x.chore(3, 0);
         x.home();
         due("26: nobody has a leave", x.mustStay(20, 0), 0);
