@@ -1232,8 +1232,8 @@ public final class MissedTown {
             }
         }
 
-        /** A number of at most so many digits; what stands behind them is left to be read. */
-        int number(int most) {
+        /** A number of at most so many digits; one digit more is a fault by its number (0: left to be read). */
+        int number(int most, int faultBeyond) {
             int value = 0;
             int digits = 0;
             while (digits < most && isDigit()) {
@@ -1243,6 +1243,9 @@ public final class MissedTown {
             }
             if (digits == 0) {
                 fail(1, place);
+            }
+            if (faultBeyond != 0 && isDigit()) {
+                fail(faultBeyond, place);
             }
             return value;
         }
@@ -1295,7 +1298,7 @@ public final class MissedTown {
                 text.fail(4, text.place);
             } else {
                 int start = text.place;
-                int chore = text.number(2);
+                int chore = text.number(2, 0);
                 if (chore >= CHORES) {
                     text.fail(3, start);
                 } else {
@@ -1380,10 +1383,10 @@ public final class MissedTown {
         }
 
         private void readDays(int p) {
-            first[p] = text.number(3);
+            first[p] = text.number(3, 1);
             text.expect('-');
             int start = text.place;
-            last[p] = text.number(3);
+            last[p] = text.number(3, 1);
             if (last[p] < first[p]) {
                 text.fail(7, start);
             }
@@ -1546,10 +1549,7 @@ public final class MissedTown {
                     text.expect(']');
                 }
             } else {
-                draft.addStep(Law.NUMBER, text.number(5));
-                if (text.isDigit()) {
-                    text.fail(2, text.place);
-                }
+                draft.addStep(Law.NUMBER, text.number(5, 2));
             }
         }
     }

@@ -2,6 +2,7 @@
 final class Checks {
     private static int wrong = 0;
     private static int asked = 0;
+    private static String about = "";
 
     private Checks() {
     }
@@ -10,7 +11,7 @@ final class Checks {
         asked++;
         if (got != want) {
             wrong++;
-            System.out.println(call + " answered " + got + ", due is " + want);
+            System.out.println(about + call + " answered " + got + ", due is " + want);
         }
     }
 
@@ -21,11 +22,20 @@ final class Checks {
     static void fail(String what) {
         asked++;
         wrong++;
-        System.out.println(what);
+        System.out.println(about + what);
+    }
+
+    /** What the next answers are about, told ahead of each that is not as due. */
+    static void speakOf(String what) {
+        about = what;
     }
 
     static int wrongSoFar() {
         return wrong;
+    }
+
+    static int askedSoFar() {
+        return asked;
     }
 
     static void end() {

@@ -380,7 +380,7 @@ final class Model {
         while (s.digit() && s.at < start + 3) {
             s.at++;
         }
-        if (s.at == start) {
+        if (s.at == start || s.digit()) {
             throw s.wrong();
         }
         return Integer.parseInt(s.text.substring(start, s.at));

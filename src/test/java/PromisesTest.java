@@ -227,7 +227,7 @@ public final class PromisesTest {
             "a500-1234", "a12-0134"};
         int[] faults = {-1000, -1001, -1001, -1002, -1003, -1002, -1003, -1004, -1006, -7003, -7003, -7004,
             -1005, -1004, -1005, -6005, -6010, -1000, -1001, -1003, -7005, -7009,
-            -7005, -1007};
+            -1008, -1007};
         for (int k = 0; k < texts.length; k++) {
             due("8: " + texts[k], Checks.leaves(x, texts[k]), faults[k]);
             due("8: the tape is empty", x.count(6), 0);
