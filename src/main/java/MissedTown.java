@@ -1206,7 +1206,8 @@ public final class MissedTown {
 
         /** The byte to be read; NONE at the end and behind a fault, so that no rule goes on there. */
         int sign() {
-            return goesOn() ? tape.at(place) : NONE;
+            boolean isThere = fault == 0 && place >= 0 && place < end && place < tape.length;
+            return isThere ? tape.bytes[place] : NONE;
         }
 
         boolean isDigit() {

@@ -296,6 +296,10 @@ final class SentencesOfCalls {
         due("in place of the one before", x.tried(1, 0), 0);
         due("its own", x.tried(1, 10), 3);
         due("two clauses", x.count(5), 2);
+        for (int k = 1; k <= 90; k++) {
+            due("law " + k, Checks.law(x, "m" + k + "(1=1&2=2)"), 1);
+            due("missed by it alone", x.tried(1, 0), k);
+        }
         Checks.feed(x, "m1(1=1)");
         due("one byte", x.law(1), -1001);
         String most = "m11(" + "1=1&".repeat(58) + "1=1)";
@@ -370,6 +374,9 @@ final class SentencesOfCalls {
         due("a fault", Checks.doers(x, "5:c;6:d;7:"), -1010);
         due("they stay", x.chore(5, 1) ? x.choreIs(5, 2) : 0, 2);
         due("none of the others", x.chore(6, 1) ? x.choreIs(6, 2) : -9, 0);
+        Checks.doers(x, "8:a");
+        due("nor with a right text behind it", x.choreIs(6, 2), 0);
+        due("they still stay", x.choreIs(5, 10), 0);
     }
 
     private static void leaves() {
@@ -400,6 +407,8 @@ final class SentencesOfCalls {
         Checks.leaves(x, "a1-2,b3-4");
         due("a fault", Checks.leaves(x, "c1-2,d"), -1006);
         due("they stay", x.count(9), 3);
+        Checks.leaves(x, "e1-2");
+        due("no others with a right text behind it", x.count(9), 16);
     }
 
     private static void home() {
@@ -452,6 +461,10 @@ final class SentencesOfCalls {
         x.chore(11, 4);
         due("of chore 11", x.tried(1, 21), 4);
         due("of person 9", x.tried(1, 39), 0);
+        MissedTown lawless = new MissedTown();
+        lawless.chore(0, 1);
+        due("nothing is missed", lawless.tried(9, 0), 0);
+        due("but something is undone", lawless.tried(9, 4), 0);
         SentencesOfDays.goTo(x, 9998);
         due("as many as can", x.tried(60, 3), 10);
         due("it is not so clear", x.tried(60, 4), 0);

@@ -519,7 +519,12 @@ final class SentencesOfCosts {
             }
         }
         Checks.law(x, "mu(1=1)");
-        due("leaves of both aside", x.against(0, 1, 2, 1, 0), 4);
+        for (String leaves : new String[] {"a0-999,b0-999", "a1-1", "b1-1", "a0-0,b1-1"}) {
+            Checks.leaves(x, leaves);
+            due("leaves of both aside", x.against(0, 1, 2, 1, 0), 4);
+            due("leaves of both aside, the other way round", x.against(1, 0, 2, 1, 0), 4);
+        }
+        Checks.leaves(x, "a0-999,b0-999");
         due("without a leave", x.against(0, 2, 2, 1, 0), 4);
         due("nobody has one", x.home() == 2 ? x.against(0, 2, 2, 1, 0) : 0, 4);
         // With b away on day 1 a alone would leave ten units there, not five; c does nothing anyway.

@@ -252,10 +252,14 @@ final class SentencesOfTown {
     private static void standIn() {
         MissedTown x = PromisesTest.three("a0-0,b0-0,c0-0");
         int[][] wants = {{0, 2, 0, 4}, {0, 2, 1, 3}, {0, 2, 2, 0}, {0, 1, 0, 3}, {2, 0, 1, 2}, {2, 0, 2, 3}, {2, 1, 0, -1}, {1, 0, 1, 3}, {1, 0, 2, 3}};
-        for (int[] w : wants) {
-            due(w[1] + " for " + w[0] + " at " + w[2], x.standIn(w[0], w[1], w[2], 1), w[3]);
+        for (int amount = 0; amount <= 2; amount++) {
+            // What is missed anyway, of a CHORE that nobody does, falls out.
+            x.chore(3, amount);
+            for (int[] w : wants) {
+                due(w[1] + " for " + w[0] + " at " + w[2], x.standIn(w[0], w[1], w[2], 1), w[3]);
+            }
+            due("of two alike the lowest", x.standIn(1, 0, 12, 1), 1);
         }
-        due("of two alike the lowest", x.standIn(1, 0, 12, 1), 1);
         due("the doers stay", x.choreIs(0, 10) * 10 + x.choreIs(0, 11), 1);
         Twins.onlyAsks("standIn(0, 1, 0, 60)", y -> y.standIn(0, 1, 0, 60));
         Twins.onlyAsks("standIn(0, 1, 12, 60)", y -> y.standIn(0, 1, 12, 60));
@@ -312,10 +316,33 @@ final class SentencesOfTown {
         }
         due("a is away", x.hired(9, 1, 1, 10), 4);
         due("just so many", x.hired(9, 1, 1, 0), 9);
+        justSoMany();
         Checks.law(x, "m1+i(1=1);c0(x=7)");
         due("by the law: c with 7 does nothing", x.hired(1, 6, 1, 1), 1);
         due("the cap stays", x.personIs(1, 0), 2);
         Twins.onlyAsks("hired(9, 7, 60, 10)", y -> y.hired(9, 7, 60, 10));
+    }
+
+    /** Who has more than five units does nothing, but all units have to be given. */
+    private static void justSoMany() {
+        MissedTown x = SentencesOfCosts.onlyOn(0);
+        x.home();
+        Checks.law(x, "c0(x>5);mu(1=1)");
+        for (int units = 1; units <= 9; units++) {
+            due("to a", x.hired(units, 1, 1, 10), 25);
+            due("all of them", x.hired(units, 1, 1, 0), units);
+            due("to a and b", x.hired(units, 3, 1, 10), 25);
+            due("none to a", x.hired(units, 3, 1, 0), 0);
+            due("all to b", x.hired(units, 3, 1, 1), units);
+            due("to all three", x.hired(units, 7, 1, 10), 0);
+            due("all to c, who has nothing to do", x.hired(units, 7, 1, 2), units);
+        }
+        Checks.doers(x, "0:a");
+        Checks.law(x, "mu(1=1)");
+        int[] row = {5, 0, 0};
+        for (int p = 0; p < 3; p++) {
+            due("a alone can use them", x.hired(5, 7, 1, p), row[p]);
+        }
     }
 
     private static void hiredLike() {
@@ -445,6 +472,10 @@ final class SentencesOfTown {
         due("nor next to it", x.halfDone(0, 2), 0);
         Checks.law(x, "m1(d=2);m10(d=3);k(1=1);n0(d>0)");
         due("just ahead of it", x.halfDone(0, 1), 0);
+        MissedTown two = SentencesOfCosts.onlyOn(0);
+        Checks.law(two, "mu(1=1);k(1=1)");
+        Checks.leaves(two, "a2-2,b2-2");
+        due("it alone going", two.halfDone(0, 1), 100 - 25);
         MissedTown one = SentencesOfDays.one(0, 5);
         Checks.law(one, "m1(1=1);k(1=1);c5(1=1)");
         Checks.leaves(one, "a2-2");
@@ -609,6 +640,11 @@ final class SentencesOfTown {
     }
 
     private static void firstDoerNobody() {
+        MissedTown lowest = SentencesOfDays.one(3, 5);
+        lowest.person(1, 1);
+        Checks.doers(lowest, "0:b");
+        due("the lowest there is", lowest.firstDoer(0, 1, 0), 0);
+        due("missed by it", lowest.firstDoer(0, 1, 1), 1);
         MissedTown x = SentencesOfDays.one(3, 5);
         due("who it is already", x.firstDoer(0, 1, 0), -2);
         due("missed as it is", x.firstDoer(0, 1, 1), 2);
