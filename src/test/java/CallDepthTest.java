@@ -43,7 +43,7 @@ public final class CallDepthTest {
         try (Stream<Path> files = Files.list(classes)) {
             files.filter(file -> file.getFileName().toString().startsWith("MissedTown")).sorted().forEach(file -> read(javap, file));
         }
-        Checks.due("methods were found", calls.size() > 90, true);
+        Checks.due("the methods of the face were found", calls.size() > 33, true);
         for (String method : calls.keySet()) {
             Checks.due("calls below " + method, depthOf(method) <= 8, true);
         }

@@ -350,6 +350,9 @@ final class SentencesOfCalls {
         }
         due("the second of the later ones", x.choreIs(1, 11), 7);
         due("no third", x.choreIs(1, 12), -1);
+        Checks.doers(x, "1:abc;1:d;2:a;2:bcd");
+        due("later ones that are fewer", x.choreIs(1, 2), 1);
+        due("later ones that are more", x.choreIs(2, 2), 3);
         due("a shorter row", Checks.doers(x, "0:j"), 1);
         due("one", x.choreIs(0, 2), 1);
         due("no second", x.choreIs(0, 11), -1);

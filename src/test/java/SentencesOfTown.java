@@ -200,6 +200,11 @@ final class SentencesOfTown {
         due("not by all, who", x.holds(1, 20, 1), -2);
         due("nobody is told", new MissedTown().holds(1, 1, 0), -2);
         due("but by nothing", new MissedTown().holds(1, 0, 0), 0);
+        MissedTown untold = new MissedTown();
+        untold.chore(0, 1);
+        Checks.law(untold, "m1(a=1)");
+        due("nor by one who is not told", untold.holds(1, 1, 0), -2);
+        due("but by the one who is", untold.person(4, 0) ? untold.holds(1, 1, 1) : 0, 16);
     }
 
     private static void holdsRefused() {
@@ -403,6 +408,11 @@ final class SentencesOfTown {
         }
         Checks.leaves(x, "b0-0");
         due("who has no leave is not asked", x.mustStay(1, 1), 0);
+        Checks.law(x, "nx+a(i=2);c6(p=2)");
+        Checks.leaves(x, "h0-0");
+        due("who has a leave is, told or not", x.mustStay(1, 1), 0);
+        Checks.law(x, "nx+20*a(i=2);c6(p=2)");
+        due("if it has to stay", x.mustStay(1, 1), 128);
         Twins.onlyAsks("mustStay(1, 0)", y -> y.mustStay(1, 0));
         Twins.onlyAsks("mustStay(20, 1)", y -> y.mustStay(20, 1));
     }
@@ -631,6 +641,12 @@ final class SentencesOfTown {
         Checks.leaves(x, "a0-0,d0-0");
         due("all going on their leaves", x.firstDoer(0, 1, 0), 4);
         due("on a day with all", x.firstDoer(0, 1, 1), 0);
+        Checks.leaves(x, "a0-0,d0-0,h0-0");
+        Checks.law(x, "m1+i(a=3)");
+        due("told or not", x.firstDoer(0, 1, 0), 4);
+        Checks.leaves(x, "a0-0,d0-0");
+        due("nothing is missed with two away", x.firstDoer(0, 1, 0), -2);
+        Checks.law(x, "m1+i(1=1)");
         x.person(5, 20);
         x.person(4, 1);
         due("least, not the lowest that makes it less", x.firstDoer(0, 1, 0), 5);
