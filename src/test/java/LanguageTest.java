@@ -1,3 +1,4 @@
+import java.io.IOException;
 import java.lang.management.ManagementFactory;
 import java.lang.reflect.Constructor;
 import java.lang.reflect.Field;
@@ -33,6 +34,10 @@ public final class LanguageTest {
 
     public static void main(String[] args) throws Exception {
         face();
+        Path document = Path.of("../shared/DOC.md");
+        if (Files.exists(document)) {
+            faceOf(document);
+        }
         String source = Files.readString(Path.of("src/main/java/MissedTown.java"), StandardCharsets.ISO_8859_1);
         text(source);
         shape(withoutComments(source));
@@ -80,6 +85,19 @@ public final class LanguageTest {
             }
         }
         Checks.due("at most twelve classes", type.getDeclaredClasses().length < 12, true);
+    }
+
+    /** The list above is the document's own. */
+    private static void faceOf(Path document) throws IOException {
+        Set<String> told = new TreeSet<>();
+        Matcher row = Pattern.compile("(?m)^    public (int|boolean) (\\w+)\\(([^)]*)\\);$").matcher(Files.readString(document, StandardCharsets.UTF_8));
+        while (row.find()) {
+            told.add(row.group(1) + " " + row.group(2) + "(" + row.group(3).replaceAll("int \\w+", "int").replace(" ", "") + ")");
+        }
+        if (!told.equals(new TreeSet<>(Arrays.asList(FACE)))) {
+            Checks.fail("the document's face is " + told);
+        }
+        Checks.due("calls of the document's face", told.size(), 33);
     }
 
     private static String withoutComments(String source) {

@@ -10,7 +10,7 @@ import java.util.TreeMap;
 import java.util.regex.Matcher;
 import java.util.regex.Pattern;
 
-/** A sentence of the document that names an edge, and the test of its own that would fail if it were broken. */
+/** A sentence of the document, and the test of its own that would fail if it were broken. */
 final class Sentence {
     private static final List<Sentence> ALL = new ArrayList<>();
 
@@ -20,6 +20,10 @@ final class Sentence {
             + "|told or not|empty then|fewest|least bits|least row|above 0|below 0|the lowest|the earliest|in place of|stays?\\b|or more"
             + "|even if|not so many|LEAVE or not|LEAVES aside");
 
+    /** What no test can ask for: marks, headings, and a promise's face. */
+    private static final Pattern NO_SENTENCE = Pattern.compile("```(text)?|==== \\d\\.|^Terms |^What it is |The constants:"
+            + "|^Promise \\d+: [\\w ]+ `[^`]*`:|[,. ]");
+
     private final String section;
     private final String quote;
 
@@ -28,7 +32,7 @@ final class Sentence {
         this.quote = quote;
     }
 
-    /** The section is "Terms" or "Promise" with its number. */
+    /** The section is "What it is", "Terms" or "Promise" with its number. */
     static void of(String section, String quote, Runnable test) {
         ALL.add(new Sentence(section, quote));
         int before = Checks.askedSoFar();
@@ -40,7 +44,7 @@ final class Sentence {
         Checks.speakOf("");
     }
 
-    /** Each quote stands in its section, and each phrase there that names an edge stands in a quote. */
+    /** Each quote stands in its section; each phrase there that names an edge, and all other words, stand in a quote. */
     static void compareWith(Path document) throws IOException {
         Map<String, String> sections = sections(Files.readString(document, StandardCharsets.UTF_8));
         Map<String, BitSet> quoted = new TreeMap<>();
@@ -54,22 +58,39 @@ final class Sentence {
         }
         for (Map.Entry<String, String> section : sections.entrySet()) {
             BitSet known = quoted.getOrDefault(section.getKey(), new BitSet());
-            Matcher edge = EDGE.matcher(section.getValue());
-            while (edge.find()) {
-                boolean tested = known.nextClearBit(edge.start()) >= edge.end();
-                int to = Math.min(section.getValue().length(), edge.end() + 40);
-                Checks.due(section.getKey() + ", untested: " + section.getValue().substring(edge.start(), to), tested, true);
-            }
+            edgesAreIn(known, section.getKey(), section.getValue());
+            allIsIn(known, section.getKey(), section.getValue());
         }
-        Checks.due("sections of the document", sections.size(), 35);
+        Checks.due("sections of the document", sections.size(), 36);
+    }
+
+    private static void edgesAreIn(BitSet known, String name, String text) {
+        Matcher edge = EDGE.matcher(text);
+        while (edge.find()) {
+            boolean tested = known.nextClearBit(edge.start()) >= edge.end();
+            int to = Math.min(text.length(), edge.end() + 40);
+            Checks.due(name + ", untested: " + text.substring(edge.start(), to), tested, true);
+        }
+    }
+
+    private static void allIsIn(BitSet known, String name, String text) {
+        for (int from = known.nextClearBit(0); from < text.length(); from = known.nextClearBit(from)) {
+            int next = known.nextSetBit(from);
+            int to = next < 0 ? text.length() : next;
+            String rest = NO_SENTENCE.matcher(text.substring(from, to)).replaceAll("");
+            Checks.due(name + ", in no quote: " + rest, rest.isEmpty(), true);
+            from = to;
+        }
     }
 
     private static Map<String, String> sections(String document) {
         Map<String, String> sections = new TreeMap<>();
         for (String part : document.split("(?m)^## ")) {
             String name = part.split("[:\n]", 2)[0].trim();
-            if (name.equals("Terms") || name.startsWith("Promise")) {
-                sections.put(name, part.replaceAll("\\s+", " "));
+            if (name.equals("What it is") || name.equals("Terms") || name.startsWith("Promise")) {
+                // What the document tells of itself at first are no promises yet.
+                String promised = part.replaceFirst("(?s)^What it is.*==== 1\\.", "What it is");
+                sections.put(name, promised.replaceAll("\\s+", " "));
             }
         }
         return sections;

@@ -4,6 +4,7 @@ final class SentencesOfCalls {
     }
 
     static void all() {
+        Sentence.of("What it is", "An object is used for at most 512 calls after it has been made; what later calls answer is free.", SentencesOfCalls::allCalls);
         Sentence.of("Terms", "KEPT: UNDONE, MISSED, THE DAY, X, LEAVES; UNDONE as it was KEPT last by undo().", SentencesOfCalls::kept);
         Sentence.of("Terms", "CHECK: UNDONE of CHORES: right, or the first number that is not so.", SentencesOfCalls::check);
         Sentence.of("Terms", "All memory is the town's own.", SentencesOfCalls::ownMemory);
@@ -168,7 +169,10 @@ final class SentencesOfCalls {
         due("nothing is kept", x.undo(), false);
         due("nothing to do", x.tried(60, 4), 60);
         due("nobody to come back", x.home(), 0);
-        // All 512 calls that an object is made for are answered alike.
+    }
+
+    /** All 512 calls that an object is made for are answered alike. */
+    private static void allCalls() {
         MissedTown many = new MissedTown();
         for (int call = 1; call <= 512; call++) {
             due("call " + call, many.days(1), 0);

@@ -10,18 +10,22 @@ final class SentencesOfCosts {
         Sentence.of("Promise 14", "THE COST of a set of told PEOPLE (bits) in n DAYS", SentencesOfCosts::costOfToldOnes);
         Sentence.of("Promise 14", "(1 to 60, here and below); NONE: no such ones.", SentencesOfCosts::sixtyDays);
         Sentence.of("Promise 14", "(1 to 60, here and below); NONE: no such ones.", SentencesOfCosts::costRefused);
+        Sentence.of("Promise 15", "By how much ONE is MISSED in n DAYS;", SentencesOfCosts::missed);
         Sentence.of("Promise 15", "-1000000000: no such ones, it has no LEAVE.", SentencesOfCosts::missedRefused);
+        Sentence.of("Promise 16", "TOGETHER;", SentencesOfCosts::together);
         Sentence.of("Promise 16", "-1000000000: no such ones, one twice, one has no LEAVE.", SentencesOfCosts::togetherRefused);
+        Sentence.of("Promise 17", "SHARES of a set in n DAYS,", SentencesOfCosts::shareOrders);
         Sentence.of("Promise 17", "what 0 above (may be below 0), 1 below the line, without a common divisor, of PERSON p of it;",
                 SentencesOfCosts::shareAsFraction);
         Sentence.of("Promise 17", "who is ELECTED (what 2; p is not looked at);", SentencesOfCosts::shareElected);
         Sentence.of("Promise 17", "-1000000000: no such ones, one has no LEAVE.", SentencesOfCosts::shareRefused);
+        Sentence.of("Promise 18", "SPOILT for PERSON p in n DAYS by PERSON q;", SentencesOfCosts::spoilt);
         Sentence.of("Promise 18", "who spoils it most (q 10; of like ones the lowest, above 0; -2: nobody);", SentencesOfCosts::spoiltMost);
         Sentence.of("Promise 18", "-1000000000: no such ones, one twice, p has no LEAVE.", SentencesOfCosts::spoiltRefused);
         Sentence.of("Promise 19", "WHEN TO LEAVE for told PERSON p (LEAVE or not), m DAYS (1 to 20), one of n DAYS (1 to 30), what 0 the DAY, 1 how much it is MISSED then;",
                 SentencesOfCosts::whenBounds);
         Sentence.of("Promise 19", "-1000000000: no such ones.", SentencesOfCosts::whenRefused);
-        Sentence.of("Promise 20", "PEOPLE p, q (LEAVES of both aside, those of others as they are), stretches (2 to 5) of m DAYS (1 to 10),",
+        Sentence.of("Promise 20", "AGAINST: PEOPLE p, q (LEAVES of both aside, those of others as they are), stretches (2 to 5) of m DAYS (1 to 10),",
                 SentencesOfCosts::againstBounds);
         Sentence.of("Promise 20", "what 0 how many twos, 1, 2 stretches of p, q of the first (-2: none);", SentencesOfCosts::againstAlwaysSome);
         Sentence.of("Promise 20", "-1000000000: no such ones, one twice.", SentencesOfCosts::againstRefused);

@@ -7,14 +7,15 @@ final class SentencesOfTown {
 
     static void all() {
         terms();
-        Sentence.of("Promise 21", "by the first n bytes of the tape (units of CHORES 0 to n - 1; n 1 to 12; empty then; of CHORES that are not told 0):",
+        Sentence.of("Promise 21", "WHAT STOPPED by the first n bytes of the tape (units of CHORES 0 to n - 1; n 1 to 12; empty then; of CHORES that are not told 0):",
                 SentencesOfTown::stoppedBytes);
         Sentence.of("Promise 21", "PEOPLE that fit (bits; bit 10: nobody away);", SentencesOfTown::stoppedBits);
         Sentence.of("Promise 21", "NONE: no such n, it has not so many (the tape stays).", SentencesOfTown::stoppedRefused);
-        Sentence.of("Promise 22", "for n DAYS (1 to 20) by so much (0 to 999999), what 0 how many, 1 who (bits);", SentencesOfTown::holdsBounds);
+        Sentence.of("Promise 22", "HOLDS TOGETHER for n DAYS (1 to 20) by so much (0 to 999999), what 0 how many, 1 who (bits);", SentencesOfTown::holdsBounds);
         Sentence.of("Promise 22", "-2: not by all;", SentencesOfTown::notByAll);
         Sentence.of("Promise 22", "NONE: no such ones.", SentencesOfTown::holdsRefused);
-        Sentence.of("Promise 23", "what 0 who, 1 how much; -2: nobody is told; 10 + p how much told PERSON p would be MISSED so;", SentencesOfTown::mayorOfNobody);
+        Sentence.of("Promise 23", "THE MAYOR for n DAYS, what 0 who, 1 how much; -2: nobody is told; 10 + p how much told PERSON p would be MISSED so;",
+                SentencesOfTown::mayorOfNobody);
         Sentence.of("Promise 23", "-1000000000: no such ones.", SentencesOfTown::mayorRefused);
         Sentence.of("Promise 24", "A STAND-IN told PERSON q for CHORE i (told) in n DAYS: by how much ONE (p) is MISSED less (may be below 0);"
                 + " the CHORE for which that is most (i 12);", SentencesOfTown::standInMost);

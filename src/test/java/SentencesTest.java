@@ -2,7 +2,7 @@ import java.io.IOException;
 import java.nio.file.Files;
 import java.nio.file.Path;
 
-/** Each sentence of the document that names an edge has a test of its own, in the document's order. */
+/** Each sentence of the document has a test, and what names an edge a test of its own. */
 public final class SentencesTest {
     private SentencesTest() {
     }
